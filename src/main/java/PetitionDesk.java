@@ -756,10 +756,12 @@ public final class PetitionDesk {
 
         private int nameAt(int place) {
             int name = 0;
-            for (int i = 0; i < MOST_LETTERS && isLetter(place + i); i++) {
-                name = Names.withLetter(name, i, byteAt(place + i));
+            int letters = 0;
+            while (letters < MOST_LETTERS && isLetter(place + letters)) {
+                name = Names.withLetter(name, letters, byteAt(place + letters));
+                letters++;
             }
-            return isLetter(place + MOST_LETTERS) ? NONE : name;
+            return isLetter(place + letters) ? NONE : name;
         }
 
         private int numberAt(int place) {

@@ -104,6 +104,8 @@ public final class PromiseTest {
         Check.due("words told here as names", () ->
                 Check.tell(y, "voter voter 1 1;voter sheet 1 1;sheet;sign sign 1 1;sign good 1 1;sign sheet 1 1;"), 3);
         Check.due("one of them has a voter", () -> y.judged(1), 2);
+        Check.due("a letter five bytes behind a short name", () -> Check.tell(y, "sheet;sign ab 0 1;sign ab00a"), 1 - 10);
+        Check.due("it is no part of it", () -> y.fault(), 27);
         Check.due("one name on two streets", () -> Check.tell(y, "voter a 1 1;voter a 2 1;"), 0);
         Check.due("two voters", () -> y.told(0), 2);
         Check.due("a number with many zeros", () -> Check.tell(y, "need 0000000000000000000000000000000000040;"), 0);
