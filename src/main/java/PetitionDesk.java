@@ -25,22 +25,21 @@ public final class PetitionDesk {
     private static final int STRUCK = 4;
     private static final int DOUBLE = 5;
 
-    private final Tape tape;
     private final TextReader reader;
+    private final Tape tape;
     private final Judgement judgement;
     private final Chances chances;
     private final Petition[] past;
     private int acts;
     private Petition now;
-    private Petition draft;
     private int faultPlace;
     private int refusedElements;
     private int refusedArguments;
     private int refusedStates;
 
     public PetitionDesk() {
-        tape = new Tape();
-        reader = new TextReader(tape);
+        reader = new TextReader();
+        tape = reader.tokens.tape;
         judgement = new Judgement();
         chances = new Chances();
         past = new Petition[MOST_ACTS];
@@ -48,7 +47,6 @@ public final class PetitionDesk {
             past[i] = new Petition();
         }
         now = new Petition();
-        draft = new Petition();
         faultPlace = NONE;
     }
 
@@ -66,8 +64,7 @@ public final class PetitionDesk {
 
     public int text(int n) throws IllegalArgumentException {
         requireArgument(isFrom(n, 0, tape.count));
-        draft.clear();
-        boolean whole = reader.readInto(draft, n);
+        boolean whole = reader.read(n);
         tape.count = 0;
         if (!whole) {
             faultPlace = reader.faultPlace;
@@ -75,9 +72,7 @@ public final class PetitionDesk {
         }
         faultPlace = NONE;
         keepForUndo();
-        Petition spare = now;
-        now = draft;
-        draft = spare;
+        now.copyFrom(reader.draft);
         judgement.judge(now);
         return now.lines;
     }
@@ -667,7 +662,7 @@ public final class PetitionDesk {
         }
     }
 
-    /** The words, numbers and signs of a text, each with the place of its first byte, and the end of it. */
+    /** The words, numbers and signs on the tape, each with the place of its first byte, and the end of the text. */
     private static final class Tokens {
         static final int END = 0;
         static final int VOTER = 1;
@@ -699,16 +694,12 @@ public final class PetitionDesk {
         final int[] kinds = new int[MOST_BYTES + 1];
         final int[] places = new int[MOST_BYTES + 1];
         final int[] values = new int[MOST_BYTES + 1];
-        private final byte[] bytes;
+        final Tape tape = new Tape();
         private int length;
         private int count;
 
-        Tokens(Tape tape) {
-            bytes = tape.bytes;
-        }
-
         void scan(int n) {
-            length = Math.max(0, Math.min(n, bytes.length));
+            length = Math.max(0, Math.min(n, MOST_BYTES));
             count = 0;
             for (int place = 0; place < length; place++) {
                 if (isLetter(place)) {
@@ -719,8 +710,8 @@ public final class PetitionDesk {
                     if (!isDigit(place - 1)) {
                         add(NUMBER, place, numberAt(place));
                     }
-                } else if (bytes[place] != ' ') {
-                    add(bytes[place] > ' ' ? bytes[place] : STRANGE, place, NONE);
+                } else if (byteAt(place) != ' ') {
+                    add(byteAt(place) > ' ' ? byteAt(place) : STRANGE, place, NONE);
                 }
             }
             add(END, length, NONE);
@@ -781,11 +772,11 @@ public final class PetitionDesk {
         }
 
         private int byteAt(int place) {
-            return place >= 0 && place < length && place < bytes.length ? bytes[place] : NONE;
+            return place >= 0 && place < length ? tape.bytes[place] : NONE;
         }
     }
 
-    /** Reads a text into an empty petition, up to its first fault. */
+    /** Reads a text into a draft of its own, up to the first fault. */
     private static final class TextReader {
         private static final int MISPLACED = 1;
         private static final int NO_SUCH_NUMBER = 2;
@@ -793,20 +784,16 @@ public final class PetitionDesk {
         private static final int TOO_MANY = 4;
         private static final int TOO_DEEP = 5;
 
-        private final Tokens tokens;
-        private Petition draft;
-        private int at;
-        private int onceTold;
+        final Tokens tokens = new Tokens();
+        final Petition draft = new Petition();
         int faultKind;
         int faultPlace;
+        private int at;
+        private int onceTold;
 
-        TextReader(Tape tape) {
-            tokens = new Tokens(tape);
-        }
-
-        boolean readInto(Petition empty, int bytes) {
+        boolean read(int bytes) {
             tokens.scan(bytes);
-            draft = empty;
+            draft.clear();
             at = 0;
             onceTold = 0;
             for (int told = 0; told < MOST_BYTES && kind() != Tokens.END; told++) {

@@ -13,6 +13,7 @@ public final class ModelTest {
     private final Model model = new Model();
     private final List<String> calls = new ArrayList<>();
     private int mostLines;
+    private int sinceText;
 
     private ModelTest(long seed) {
         random = new Random(seed);
@@ -20,7 +21,7 @@ public final class ModelTest {
     }
 
     public static void main(String[] args) {
-        int runs = args.length > 0 ? Integer.parseInt(args[0]) : 150;
+        int runs = args.length > 0 ? Integer.parseInt(args[0]) : 400;
         for (int seed = 0; seed < runs && !Check.isWrong(); seed++) {
             new ModelTest(seed).run();
         }
@@ -30,7 +31,7 @@ public final class ModelTest {
     private void run() {
         for (int i = 0; i < 512 && !Check.isWrong(); i++) {
             int before = calls.size();
-            if (i % 60 == 0) {
+            if (sinceText++ % 70 == 0) {
                 tellText();
             } else {
                 one();
@@ -58,6 +59,10 @@ public final class ModelTest {
     }
 
     private void tellText() {
+        if (model.tape.length > 0 && !chance(10)) {
+            int fed = model.tape.length;
+            same("text(" + fed + ")", () -> desk.text(fed), () -> model.text(fed));
+        }
         String text = randomText();
         byte[] bytes = Check.bytesOf(text.length() > 600 ? text.substring(0, 600) : text);
         for (int from = 0; from < bytes.length; from += 20) {
@@ -77,12 +82,12 @@ public final class ModelTest {
     }
 
     private String blank() {
-        return chance(6) ? " " : "";
+        return chance(12) ? " " : "";
     }
 
     private String number(int usual, int most) {
-        int n = chance(60) ? EDGES[2 + random.nextInt(EDGES.length - 2)] : chance(12) ? random.nextInt(most + 1) : random.nextInt(usual + 1);
-        return blank() + " " + (chance(20) ? "00" : "") + n;
+        int n = chance(400) ? EDGES[2 + random.nextInt(EDGES.length - 2)] : chance(12) ? random.nextInt(most + 1) : random.nextInt(usual + 1);
+        return (chance(12) ? "  " : " ") + (chance(20) ? "00" : "") + n;
     }
 
     private String name() {
@@ -91,22 +96,25 @@ public final class ModelTest {
 
     private String randomText() {
         List<String> parts = new ArrayList<>();
-        int voters = chance(20) ? 17 : 1 + random.nextInt(6);
+        List<String> roll = new ArrayList<>();
+        int voters = chance(20) ? 17 : chance(5) ? 10 : 1 + random.nextInt(6);
         boolean alike = chance(30);
         for (int v = 0; v < voters; v++) {
-            parts.add("voter" + (alike || v > 5 ? name() : " " + NAMES[v % NAMES.length]) + (v > 5 ? " " + v : number(alike ? 3 : 1, 99))
-                    + number(30, 999));
+            String key = (alike || v > 5 ? name() : " " + NAMES[v % NAMES.length]) + (v > 5 ? " " + v : number(alike ? 3 : 1, 99));
+            roll.add(key);
+            parts.add("voter" + key + number(chance(4) ? 40 : 12, 99));
         }
-        int sheets = chance(20) ? 9 : 1 + random.nextInt(4);
+        int sheets = chance(20) ? 9 : 1 + random.nextInt(chance(3) ? 8 : 4);
         int lines = random.nextInt(mostLines + 1);
         for (int s = 0; s < sheets; s++) {
             parts.add("sheet");
-            for (int l = 0; l < lines / sheets + 1; l++) {
-                parts.add("sign" + name() + number(1, 99) + number(60, 999));
+            for (int l = 0; l < lines / sheets + (s == 0 ? 1 : 0); l++) {
+                String key = chance(8) ? name() + number(1, 99) : roll.get(random.nextInt(roll.size()));
+                parts.add("sign" + key + number(60, 999));
             }
         }
         for (String word : new String[] {"need", "spoilt", "alpha", "span", "good"}) {
-            if (chance(2)) {
+            if (chance(3)) {
                 parts.add(random.nextInt(chance(2) ? 1 : parts.size() + 1), setting(word));
             }
         }
@@ -114,8 +122,11 @@ public final class ModelTest {
         for (String part : parts) {
             text.append(blank()).append(part).append(blank()).append(';');
         }
-        text.append(blank());
-        return mutate(text);
+        // A text that is too long for the tape is cut behind one of its lines.
+        if (text.length() > 600) {
+            text.setLength(text.lastIndexOf(";", 599) + 1);
+        }
+        return mutate(text.append(text.length() < 600 ? blank() : ""));
     }
 
     private String setting(String word) {
@@ -123,7 +134,7 @@ public final class ModelTest {
             case "need": return "need" + number(6, 40);
             case "spoilt": return "spoilt" + number(100, 100);
             case "alpha": return "alpha" + number(498, 499);
-            case "span": return "span" + number(10, 300) + " " + (100 + random.nextInt(400));
+            case "span": return "span" + number(10, 50) + " " + (50 + random.nextInt(400));
             default: return "good " + condition(0);
         }
     }
@@ -144,7 +155,7 @@ public final class ModelTest {
     }
 
     private String mutate(StringBuilder text) {
-        while (text.length() > 0 && chance(5)) {
+        while (text.length() > 0 && chance(6)) {
             int at = random.nextInt(text.length());
             String signs = ";( )<=>0159azdotnr\n\r" + (char) 133 + (char) 255 + (char) 0 + (char) 127;
             char sign = signs.charAt(random.nextInt(signs.length()));
@@ -163,20 +174,25 @@ public final class ModelTest {
         int a = near(1);
         int s = near(Math.max(0, model.state.sheets.size() - 1));
         int v = near(Math.max(0, model.state.voters.size() - 1));
-        int l = near(12);
         int lines = model.state.spots().size();
+        List<Model.Line> on = s >= 0 && s < model.state.sheets.size() ? model.state.sheets.get(s) : List.of();
+        int l = near(chance(8) ? 12 : on.size() - 1);
         int seed = chance(3) ? near(10) : random.nextInt();
         int n = near(chance(2) ? lines : Math.min(4, lines));
-        switch (random.nextInt(24)) {
+        switch (random.nextInt(40)) {
             case 0: feedBoth(new int[] {random.nextInt(), 0, -1, seed, 0x20202020}); break;
             case 1: {
-                int bytes = near(30);
+                int bytes = chance(3) ? near(30) : 600;
                 same("text(" + bytes + ")", () -> desk.text(bytes), () -> model.text(bytes));
                 break;
             }
             case 2: same("fault()", desk::fault, model::fault); break;
             case 3:
-            case 4: same("sample(" + a + ", " + n + ", " + seed + ")", () -> desk.sample(a, n, seed), () -> model.sample(a, n, seed)); break;
+            case 4:
+            case 9:
+            case 10:
+            case 11:
+            case 12: same("sample(" + a + ", " + n + ", " + seed + ")", () -> desk.sample(a, n, seed), () -> model.sample(a, n, seed)); break;
             case 5: {
                 boolean is = chance(2);
                 same("strike(" + s + ", " + is + ")", () -> desk.strike(s, is), () -> model.strike(s, is));
