@@ -173,6 +173,9 @@ public final class PromiseTest {
         fault("" + (char) 233, 1, 0);
         fault("" + (char) 255, 1, 0);
         fault("sheet;" + (char) 0, 1, 6);
+        fault(";".repeat(600), 1, 0);
+        fault("good 1" + "<1".repeat(297), 1, 8);
+        fault("good 1=1" + "or 1=1".repeat(98) + "and", 1, 599);
     }
 
     private static void faultsOfTwoToFive() {
@@ -303,6 +306,11 @@ public final class PromiseTest {
         Check.refused("a 41st", () -> x.sign(0, 0, 0), Check.STATE);
         Check.refused("a 41st, no day", () -> x.sign(0, 0, 1000), Check.ARGUMENT);
         Check.due("40", () -> x.told(2), 40);
+        PetitionDesk y = Check.deskOf("voter b 2 0;sheet;sheet;" + "sign a 1 1;".repeat(38) + "sign a 3 4;");
+        Check.due("the fortieth, ahead of all others", () -> y.sign(0, 0, 9), 0);
+        Check.due("it stands there", () -> y.line(0, 0, 0), 2);
+        Check.due("the others behind it", () -> y.line(1, 38, 0), 3);
+        Check.due("with their days", () -> y.line(1, 38, 1), 4);
     }
 
     private static void erasing() {
@@ -598,7 +606,10 @@ public final class PromiseTest {
         // Exactly alpha is not more: one of two lines, 1000 * 1 against 250 * 2 and 499 * 2.
         PetitionDesk u = Check.deskOf("voter a 1 0;sheet;sign a 1 1;sign a 1 1;sign a 1 1;sign a 1 1;alpha 250;");
         u.sample(0, 1, 1);
-        Check.due("a bound that is just reached", () -> u.drawn(0, 3), 2);
+        Check.due("a low bound that is just not reached", () -> u.drawn(0, 3), 2);
+        PetitionDesk t = Check.deskOf("sheet;sign a 1 1;sign a 1 1;sign a 1 1;sign a 1 1;alpha 250;");
+        t.sample(0, 1, 1);
+        Check.due("a high bound that is just not reached", () -> t.drawn(0, 4), 2);
     }
 
     private static void estimates() {
@@ -676,6 +687,9 @@ public final class PromiseTest {
         PetitionDesk y = Check.deskOf("voter a 1 0;sheet;" + "sign a 1 1;sign b 1 1;".repeat(20));
         Check.due("above", () -> y.unseen(20, 0), 401);
         Check.due("below", () -> y.unseen(20, 1), 137846528820L);
+        Check.due("all of forty", () -> y.unseen(40, 0), 0);
+        PetitionDesk z = Check.deskOf("sheet;" + "sign a 1 1;".repeat(40));
+        Check.due("all of forty, nobody's", () -> z.unseen(40, 0), 1);
     }
 
     private static void fewests() {
