@@ -12,8 +12,14 @@ final class Check {
     static final String STATE = "IllegalStateException";
 
     private static int wrong = 0;
+    private static String sentence = "";
 
     private Check() {
+    }
+
+    /** What is looked at from here on belongs to these words of the document. */
+    static void sentence(String words) {
+        sentence = "[" + words + "] ";
     }
 
     static void due(String what, Call call, long want) {
@@ -28,7 +34,7 @@ final class Check {
         if (!got.equals(want)) {
             wrong++;
             if (wrong <= 40) {
-                System.out.println(what + " answered " + got + ", due is " + want);
+                System.out.println(sentence + what + " answered " + got + ", due is " + want);
             }
         }
     }
@@ -78,6 +84,66 @@ final class Check {
         byte[] bytes = bytesOf(text);
         feed(desk, bytes);
         return desk.text(bytes.length);
+    }
+
+    /** The text has this fault at this place, on an object that has told nothing yet. */
+    static void fault(String text, int kind, int place) {
+        PetitionDesk desk = new PetitionDesk();
+        due("text of \"" + text + "\"", () -> tell(desk, text), kind - 10);
+        due("fault of \"" + text + "\"", () -> desk.fault(), place);
+        due("acts of \"" + text + "\"", () -> desk.told(10), 0);
+    }
+
+    /** The text has no fault, and so many lines. */
+    static void fine(String text, int lines) {
+        PetitionDesk desk = new PetitionDesk();
+        due("text of \"" + text + "\"", () -> tell(desk, text), lines);
+        due("fault of \"" + text + "\"", () -> desk.fault(), PetitionDesk.NONE);
+    }
+
+    /** So many voters, all named a, each on the street of its number. */
+    static String voters(int many) {
+        StringBuilder text = new StringBuilder();
+        for (int i = 0; i < many; i++) {
+            text.append("voter a ").append(i).append(" 0;");
+        }
+        return text.toString();
+    }
+
+    /** What print() is due to answer for lines of these streets and judgements. */
+    static long printOf(int... streetsAndHows) {
+        long sum = 0;
+        for (int next : streetsAndHows) {
+            sum = sum * 31 + next;
+        }
+        return sum;
+    }
+
+    /** All that can be asked, as one text; not fault() and status(), which a faulty text and a refused call change. */
+    static String allOf(PetitionDesk x) {
+        StringBuilder all = new StringBuilder();
+        for (int what = 0; what <= 10; what++) {
+            all.append(x.told(what)).append(' ');
+        }
+        all.append(x.passes()).append(' ').append(x.fewest()).append(' ').append(x.print());
+        for (int v = 0; v < x.told(0); v++) {
+            all.append(" v").append(x.voter(v, 0)).append(' ').append(x.voter(v, 1)).append(' ').append(x.letter(v, 0));
+        }
+        for (int s = 0; s < x.told(1); s++) {
+            all.append(" s").append(x.sheet(s, 2));
+            for (int l = 0; l < x.sheet(s, 0); l++) {
+                all.append(" l");
+                for (int what = 0; what <= 5; what++) {
+                    all.append(x.line(s, l, what)).append(' ');
+                }
+            }
+        }
+        for (int which = 0; which <= 1; which++) {
+            for (int what = 0; what <= 5; what++) {
+                all.append(" d").append(x.drawn(which, what));
+            }
+        }
+        return all.toString();
     }
 
     static PetitionDesk deskOf(String text) {
