@@ -182,6 +182,21 @@ public final class ActEdgeTest {
             Check.due("what is taken back already is passed over", () -> x.told(3), needs[3 - left]);
         }
         Check.due("no more", () -> x.undo(), NONE);
+        // One of eight taken back makes room for another: eight can be taken back again, the first of all with them.
+        PetitionDesk y = new PetitionDesk();
+        for (int i = 1; i <= 8; i++) {
+            Check.tell(y, "need " + (10 + i) + ";");
+        }
+        y.undo();
+        Check.tell(y, "need 20;");
+        Check.due("eight again", () -> y.told(10), 8);
+        Check.tell(y, "need 21;");
+        Check.due("eight still", () -> y.told(10), 8);
+        for (int left = 7; left >= 0; left--) {
+            int still = left;
+            Check.due("one back", () -> y.undo(), still);
+        }
+        Check.due("the first act is the one that stays", () -> y.told(3), 11);
     }
 
     private static void nothingStaysChanged() {

@@ -21,8 +21,10 @@ public final class CallEdgeTest {
         samples();
         strikes();
         signs();
+        signAheadOfMany();
         signOfForty();
         erases();
+        eraseAheadOfMany();
         eraseTellsHow();
         undos();
         tellings();
@@ -274,6 +276,41 @@ public final class CallEdgeTest {
         for (int none : new int[] {-1, 1000, LEAST, GREATEST}) {
             Check.refused("day " + none, () -> x.sign(0, 0, none), Check.ARGUMENT);
         }
+    }
+
+    // Thirty lines on sheet 0 with the days 0 to 29, nine on sheet 1 with the days 100 to 108.
+    private static PetitionDesk thirtyNine() {
+        PetitionDesk x = Check.deskOf("voter a 1 0;sheet;sheet;");
+        for (int i = 0; i < 39; i++) {
+            x.sign(i < 30 ? 0 : 1, 0, i < 30 ? i : 70 + i);
+        }
+        return x;
+    }
+
+    private static void days(PetitionDesk x, int sheet, int first, int last, int day) {
+        for (int l = first; l <= last; l++) {
+            int line = l;
+            Check.due("day of line " + l + " of sheet " + sheet, () -> x.line(sheet, line, 1), day + l - first);
+        }
+    }
+
+    private static void signAheadOfMany() {
+        Check.sentence("A LINE comes to a SHEET, behind its others");
+        PetitionDesk x = thirtyNine();
+        Check.due("the fortieth, in the middle", () -> x.sign(0, 0, 500), 30);
+        days(x, 0, 0, 29, 0);
+        days(x, 0, 30, 30, 500);
+        days(x, 1, 0, 8, 100);
+    }
+
+    private static void eraseAheadOfMany() {
+        Check.sentence("those behind it on its SHEET are numbered anew");
+        PetitionDesk x = thirtyNine();
+        x.erase(0, 25);
+        days(x, 0, 0, 24, 0);
+        days(x, 0, 25, 28, 26);
+        days(x, 1, 0, 8, 100);
+        Check.refused("no line 29", () -> x.line(0, 29, 1), Check.ELEMENT);
     }
 
     private static void signOfForty() {

@@ -192,6 +192,10 @@ public final class SampleEdgeTest {
         bounds(four + "alpha 250;", 1, 2, 4);
         bounds(four + "alpha 249;", 1, 1, 4);
         bounds(four + "alpha 251;", 1, 2, 4);
+        // A thousand times: one of three, 1000 * K against 333 * 3 and 334 * 3.
+        String three = "voter a 1 0;sheet;" + "sign a 1 1;".repeat(3);
+        bounds(three + "alpha 333;", 1, 1, 3);
+        bounds(three + "alpha 334;", 1, 2, 3);
         // All of them drawn: as many as there are.
         bounds(four + "alpha 1;", 4, 4, 4);
         bounds(four + "alpha 499;", 4, 4, 4);
@@ -210,6 +214,10 @@ public final class SampleEdgeTest {
         bounds(four + "alpha 250;", 1, 0, 2);
         bounds(four + "alpha 249;", 1, 0, 3);
         bounds(four + "alpha 251;", 1, 0, 2);
+        // A thousand times: one of three, none good, 1000 * (3 - K) against 333 * 3 and 334 * 3.
+        String three = "sheet;" + "sign a 1 1;".repeat(3);
+        bounds(three + "alpha 333;", 1, 0, 2);
+        bounds(three + "alpha 334;", 1, 0, 1);
         // All of them drawn: as many as were good.
         bounds(four + "alpha 1;", 4, 0, 0);
         bounds(four + "alpha 499;", 4, 0, 0);
