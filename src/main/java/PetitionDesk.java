@@ -792,30 +792,30 @@ public final class PetitionDesk {
         private int onceTold;
 
         boolean read(int bytes) {
+            begin(bytes);
+            boolean isFine = true;
+            for (int told = 0; told < MOST_BYTES && isFine && kind() != Tokens.END; told++) {
+                switch (kind()) {
+                    case Tokens.VOTER: isFine = readVoter(); break;
+                    case Tokens.SHEET: isFine = readSheet(); break;
+                    case Tokens.SIGN: isFine = readSigned(); break;
+                    case Tokens.NEED: isFine = readNeed(); break;
+                    case Tokens.SPAN: isFine = readSpan(); break;
+                    case Tokens.SPOILT: isFine = readSpoilt(); break;
+                    case Tokens.ALPHA: isFine = readAlpha(); break;
+                    case Tokens.GOOD: isFine = takeOnce() && readChoice(0); break;
+                    default: isFine = refuse(MISPLACED, place());
+                }
+                isFine = isFine && takeSign(';');
+            }
+            return isFine;
+        }
+
+        private void begin(int bytes) {
             tokens.scan(bytes);
             draft.clear();
             at = 0;
             onceTold = 0;
-            for (int told = 0; told < MOST_BYTES && kind() != Tokens.END; told++) {
-                if (!readTold() || !takeSign(';')) {
-                    return false;
-                }
-            }
-            return true;
-        }
-
-        private boolean readTold() {
-            switch (kind()) {
-                case Tokens.VOTER: return readVoter();
-                case Tokens.SHEET: return readSheet();
-                case Tokens.SIGN: return readSigned();
-                case Tokens.NEED: return readNeed();
-                case Tokens.SPAN: return readSpan();
-                case Tokens.SPOILT: return readSpoilt();
-                case Tokens.ALPHA: return readAlpha();
-                case Tokens.GOOD: return takeOnce() && readChoice(0);
-                default: return refuse(MISPLACED, place());
-            }
         }
 
         private boolean readVoter() {
@@ -979,16 +979,18 @@ public final class PetitionDesk {
         }
 
         private int takeOperand() {
-            if (kind() == Tokens.NUMBER) {
-                return takeNumber(0, Rule.FIRST_FACT - 1);
-            }
-            int fact = factOf(kind());
-            if (fact == NONE) {
+            boolean isNumber = kind() == Tokens.NUMBER;
+            int operand = isNumber ? tokens.values[at] : factOf(kind());
+            if (operand == NONE) {
                 refuse(MISPLACED, place());
                 return NONE;
             }
+            if (isNumber && operand >= Rule.FIRST_FACT) {
+                refuse(NO_SUCH_NUMBER, place());
+                return NONE;
+            }
             advance();
-            return Rule.FIRST_FACT + fact;
+            return isNumber ? operand : Rule.FIRST_FACT + operand;
         }
 
         private static int factOf(int kind) {
@@ -1149,7 +1151,7 @@ public final class PetitionDesk {
                     int voter = 1 << voterOf[i];
                     if ((struck >> sheet & 1) == 1) {
                         how[i] = STRUCK;
-                    } else {
+                    } else if (sheet >= 0 && sheet < MOST_SHEETS) {
                         how[i] = (seen & voter) == 0 ? TRUE : DOUBLE;
                         seen |= voter;
                         votersOn[sheet] |= voter;
